@@ -305,5 +305,15 @@ public final class RowsTest {
         x.hold(2, 0, 0);
         Due.is("8: references among themselves", x.copy(2, 0, 0, 0, 1), 1);
         Due.is("8: a named one", x.held(0, 0), 0);
+        x.row(3, 4, 3);
+        x.row(4, 4, 3);
+        for (int k = 0; k < 3; k++) {
+            x.hold(3, k, 1);
+        }
+        Due.is("8: temporary among themselves", x.copy(3, 0, 4, 0, 2), 1);
+        Due.is("8: gone", x.held(4, 1), 1);
+        Due.is("8: no more than that", x.held(4, 2), NULL);
+        Due.is("8: all of them", x.copy(3, 0, 4, 0, 3), 1);
+        Due.is("8: gone", x.held(4, 2), 1);
     }
 }

@@ -328,6 +328,8 @@ public final class StreamsTest {
         Due.are("14: nothing changes", about(x, 2), 2, 60, 60, 58, 4, 3, 0, 0);
         x.seek(2, -1, 2);
         Due.is("14: in place of the last", x.put(2, '!'), 1);
+        x.seek(2, -1, 2);
+        Due.is("14: the last", x.get(2), '!');
         x.close(2);
 
         x = withFile(1, 2, 3, 4, 5, 6);
@@ -349,13 +351,17 @@ public final class StreamsTest {
         Due.is("14: the 16th", x.put(4, 1000), FULL);
         Due.is("14: 60 bytes", x.exists(0), 60);
         x.close(4);
-        x.open(0, APPEND, false);
-        Due.is("14: append when full", x.put(5, 9), FULL);
-        x.seek(5, 0, 0);
-        Due.is("14: append elsewhere", x.put(5, 9), 1);
+        x.open(0, READ, true);
+        x.seek(5, -1, 2);
+        Due.is("14: the last", x.get(5), 1000);
         x.close(5);
+        x.open(0, APPEND, false);
+        Due.is("14: append when full", x.put(6, 9), FULL);
+        x.seek(6, 0, 0);
+        Due.is("14: append elsewhere", x.put(6, 9), 1);
+        x.close(6);
         x.open(0, READ, false);
-        Due.is("14: it is there", x.get(6), 9);
+        Due.is("14: it is there", x.get(7), 9);
     }
 
     private static void promise15() {
