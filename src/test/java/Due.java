@@ -12,6 +12,13 @@ final class Due {
         }
     }
 
+    static void same(String call, String got, String want) {
+        if (!got.equals(want)) {
+            wrong++;
+            System.out.println(call + " answered " + got + ", due is " + want);
+        }
+    }
+
     /** The answers of a run of calls, in order. */
     static void are(String calls, long[] got, long... want) {
         if (got.length != want.length) {
