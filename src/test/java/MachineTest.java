@@ -6,8 +6,8 @@ import java.util.Random;
  */
 public final class MachineTest {
     private static final int RUNS = 3000;
-    /** Each is followed by told(7), so that a run stays below the 512 calls of an object. */
-    private static final int CALLS = 225;
+    /** With a told(7) behind each, and a look at all items at the end, a run stays below an object's 512 calls. */
+    private static final int CALLS = 200;
     private static final int STREAM = 1;
     private static final int END = 5;
 
@@ -73,6 +73,17 @@ public final class MachineTest {
             met[fault]++;
             latest = fault == 0 ? latest : fault;
             Due.is(name + ": the latest FAULT", asked.told(7), latest);
+        }
+        for (int r = 0; r < 8; r++) {
+            allItems("run " + run + ", row " + r + " at the end", r);
+        }
+    }
+
+    private void allItems(String name, int r) {
+        int length = rows[r] == null ? 0 : java.lang.reflect.Array.getLength(rows[r]);
+        for (int k = 0; k < length; k++) {
+            boolean numbers = rows[r] instanceof byte[] || rows[r] instanceof int[];
+            compared(name, numbers ? oneItem(r, rows[r] instanceof byte[] ? 1 : 2, k) : oneHeld(r, k));
         }
     }
 

@@ -47,7 +47,9 @@ public final class NeverThrowsTest {
             case 3: x.item(number(random, 8), small, middling); break;
             case 4: x.hold(number(random, 8), middling, reference); break;
             case 5: x.held(number(random, 8), middling); break;
-            case 6: x.copy(number(random, 8), number(random, 20), number(random, 8), number(random, 20), middling); break;
+            case 6:
+                x.copy(number(random, 8), number(random, 20), number(random, 8), number(random, 20), middling);
+                break;
             case 7: opened(x.pane()); break;
             case 8: opened(x.memory(number(random, 8), middling, small, wide)); break;
             case 9: opened(x.open(reference, number(random, 6), wide)); break;

@@ -65,14 +65,16 @@ public final class RowsEdgesTest {
     private static void ofNoItemsTo40() {
         for (int n : new int[] {0, 1, 39, 40}) {
             for (int sort = 1; sort <= 2; sort++) {
-                Run run = Run.of("T: bytes, ints (both 0 at first), of 0 to 40 items", "row(0, " + sort + ", " + n + ") = 1");
+                Run run = Run.of("T: bytes, ints (both 0 at first), of 0 to 40 items",
+                    "row(0, " + sort + ", " + n + ") = 1");
                 for (int k = 0; k < n; k++) {
                     run.then("item(0, " + sort + ", " + k + ") = 0");
                 }
                 run.then("item(0, " + sort + ", " + n + ") = INDEX", "item(0, " + sort + ", -1) = INDEX");
             }
             for (int sort = 3; sort <= 4; sort++) {
-                Run run = Run.of("T: both of NOTHING at first, of 0 to 40 items", "row(0, " + sort + ", " + n + ") = 1");
+                Run run = Run.of("T: both of NOTHING at first, of 0 to 40 items",
+                    "row(0, " + sort + ", " + n + ") = 1");
                 for (int k = 0; k < n; k++) {
                     run.then("held(0, " + k + ") = NULL");
                 }
@@ -114,7 +116,8 @@ public final class RowsEdgesTest {
     private static void sizes() {
         for (int sort = 1; sort <= 4; sort++) {
             String row = "row(1, " + sort + ", ";
-            Run.of("2: OUTSIDE (n above 40)", row + "40) = 1", row + "41) = OUTSIDE", row + "MAX) = OUTSIDE", "told(7) = 0");
+            Run.of("2: OUTSIDE (n above 40)", row + "40) = 1", row + "41) = OUTSIDE", row + "MAX) = OUTSIDE",
+                "told(7) = 0");
             Run.of("2: FAULT 4", row + "0) = 1", "told(7) = 0", row + "-1) = SIZE", "told(7) = 4", row + "MIN) = SIZE");
         }
         Run.of("2: they change nothing", "row(0, 1, 2); set(0, 1, 1, 9); row(0, 2, 41) = OUTSIDE; item(0, 1, 1) = 9",
@@ -123,10 +126,12 @@ public final class RowsEdgesTest {
     }
 
     private static void lent() {
-        Run.of("3: a ROW holds what another one does", "row(7, 1, 1); set(7, 1, 0, 3)", "lend(0, 7) = 1; item(0, 1, 0) = 3");
+        Run.of("3: a ROW holds what another one does", "row(7, 1, 1); set(7, 1, 0, 3)",
+            "lend(0, 7) = 1; item(0, 1, 0) = 3");
         Run.of("3: NOTHING, too", "row(0, 1, 1); lend(0, 7) = 1; item(0, 1, 0) = NULL");
         Run.of("3: itself", "row(7, 1, 1); set(7, 1, 0, 3); lend(7, 7) = 1; item(7, 1, 0) = 3");
-        Run.of("3: UNKNOWN changes nothing", "row(0, 1, 1); lend(0, 8) = UNKNOWN; lend(0, -1) = UNKNOWN; item(0, 1, 0) = 0");
+        Run.of("3: UNKNOWN changes nothing", "row(0, 1, 1); lend(0, 8) = UNKNOWN; lend(0, -1) = UNKNOWN",
+            "item(0, 1, 0) = 0");
     }
 
     private static void cutToItsWidth() {
@@ -134,7 +139,8 @@ public final class RowsEdgesTest {
             {"256", "0"}, {"-256", "0"}, {"-1", "-1"}, {"MAX", "-1"}, {"MIN", "0"}};
         for (String[] pair : bytes) {
             Run.of("4: cut to its width; 5: bytes have a sign", SORTS,
-                "set(1, 1, 1, " + pair[0] + ") = 1", "item(1, 1, 1) = " + pair[1], "item(1, 1, 0) = 0", "item(1, 1, 2) = 0");
+                "set(1, 1, 1, " + pair[0] + ") = 1", "item(1, 1, 1) = " + pair[1], "item(1, 1, 0) = 0",
+                "item(1, 1, 2) = 0");
         }
         for (String v : new String[] {"MAX", "MIN", "-1", "65536", "128"}) {
             Run.of("4: cut to its width, of ints", SORTS,
@@ -152,9 +158,11 @@ public final class RowsEdgesTest {
         for (int sort = 1; sort <= 2; sort++) {
             for (int r = 1; r <= 4; r++) {
                 String due = r == sort ? "1" : "CAST";
-                Run.of("4: FAULT 2", SORTS, "set(" + r + ", " + sort + ", 2, 1) = " + due, "told(7) = " + (r == sort ? 0 : 2));
+                Run.of("4: FAULT 2", SORTS, "set(" + r + ", " + sort + ", 2, 1) = " + due,
+                    "told(7) = " + (r == sort ? 0 : 2));
                 due = r == sort ? "0" : "CAST";
-                Run.of("5: FAULT 2", SORTS, "item(" + r + ", " + sort + ", 2) = " + due, "told(7) = " + (r == sort ? 0 : 2));
+                Run.of("5: FAULT 2", SORTS, "item(" + r + ", " + sort + ", 2) = " + due,
+                    "told(7) = " + (r == sort ? 0 : 2));
             }
         }
     }
@@ -169,7 +177,8 @@ public final class RowsEdgesTest {
                 "item(0, 1" + of + ") = NULL; told(7) = 1; item(1, 1" + of + ") = INDEX; told(7) = 3",
                 "item(3, 2" + of + ") = CAST; item(4, 2" + of + ") = CAST; item(2, 2" + of + ") = INDEX");
         }
-        Run.of("4: item k, the first and the last", SORTS, "set(2, 2, 0, 7) = 1; set(2, 2, 2, 9) = 1; item(2, 2, 0) = 7",
+        Run.of("4: item k, the first and the last", SORTS, "set(2, 2, 0, 7) = 1; set(2, 2, 2, 9) = 1",
+            "item(2, 2, 0) = 7",
             "item(2, 2, 1) = 0; item(2, 2, 2) = 9; told(7) = 0");
         Run.of("4: a FAULT changes nothing", SORTS, "set(2, 2, 3, 7) = INDEX; set(2, 2, -1, 7) = INDEX",
             "item(2, 2, 0) = 0; item(2, 2, 2) = 0; set(2, 1, 0, 7) = CAST; item(2, 2, 0) = 0");
@@ -180,26 +189,33 @@ public final class RowsEdgesTest {
             "item(8, 1, 0) = -9223372036854775806; item(1, 0, 0) = -9223372036854775805",
             "item(0, 1, 0) = -9223372036854775797; item(1, 2, 0) = -9223372036854775796",
             "item(1, 1, 3) = -9223372036854775795");
-        Run.of("5: what is no refusal", SORTS, "set(2, 2, 0, -2); item(2, 2, 0) = -2; set(2, 2, 0, MIN); item(2, 2, 0) = MIN");
+        Run.of("5: what is no refusal", SORTS, "set(2, 2, 0, -2); item(2, 2, 0) = -2; set(2, 2, 0, MIN)",
+            "item(2, 2, 0) = MIN");
     }
 
     private static void held() {
         for (int r = 3; r <= 4; r++) {
             String row = "(" + r + ", ";
             Run.of("6, 7: item k, the first and the last", REFERENCES, SORTS, "hold" + row + "0, 1) = 1",
-                "hold" + row + "2, 1) = 1", "held" + row + "0) = 1", "held" + row + "1) = NULL", "held" + row + "2) = 1");
+                "hold" + row + "2, 1) = 1", "held" + row + "0) = 1", "held" + row + "1) = NULL",
+                "held" + row + "2) = 1");
             Run.of("6: NONE: NOTHING", REFERENCES, SORTS, "hold" + row + "2, 1) = 1", "hold" + row + "2, NONE) = 1",
                 "told(7) = 0", "held" + row + "2) = NULL");
         }
-        Run.of("6: UNKNOWN: there is no such REFERENCE", REFERENCES, SORTS, "hold(3, 0, 0) = 1; hold(3, 0, 2) = UNKNOWN",
+        Run.of("6: UNKNOWN: there is no such REFERENCE", REFERENCES, SORTS, "hold(3, 0, 0) = 1",
+            "hold(3, 0, 2) = UNKNOWN",
             "hold(3, 0, -2) = UNKNOWN; hold(3, 0, 20) = UNKNOWN; hold(3, 0, MIN) = UNKNOWN; hold(3, 0, MAX) = UNKNOWN",
             "held(3, 0) = 0; told(7) = 0; temporary(0) = 2; hold(3, 0, 2) = 1; held(3, 0) = 2");
         for (String k : new String[] {"-1", "3", "MIN", "MAX"}) {
-            Run.of("6: FAULTS 2, 1, 3, 5, the first of them", REFERENCES, SORTS, "hold(1, " + k + ", 0) = CAST; told(7) = 2",
-                "hold(2, " + k + ", 0) = CAST; hold(0, " + k + ", 0) = NULL; told(7) = 1; hold(3, " + k + ", 0) = INDEX",
-                "told(7) = 3; hold(4, " + k + ", 0) = INDEX; hold(4, " + k + ", NONE) = INDEX; hold(4, 2, 0) = STORE; told(7) = 5");
+            Run.of("6: FAULTS 2, 1, 3, 5, the first of them", REFERENCES, SORTS,
+                "hold(1, " + k + ", 0) = CAST; told(7) = 2",
+                "hold(2, " + k + ", 0) = CAST; hold(0, " + k + ", 0) = NULL; told(7) = 1",
+                "hold(3, " + k + ", 0) = INDEX",
+                "told(7) = 3; hold(4, " + k + ", 0) = INDEX; hold(4, " + k + ", NONE) = INDEX; hold(4, 2, 0) = STORE",
+                "told(7) = 5");
             Run.of("7: FAULTS 2, 1, 3, 1, the first of them", SORTS, "held(1, " + k + ") = CAST; told(7) = 2",
-                "held(2, " + k + ") = CAST; held(0, " + k + ") = NULL; told(7) = 1; held(3, " + k + ") = INDEX; told(7) = 3",
+                "held(2, " + k + ") = CAST; held(0, " + k + ") = NULL; told(7) = 1; held(3, " + k + ") = INDEX",
+                "told(7) = 3",
                 "held(4, " + k + ") = INDEX; held(3, 2) = NULL; told(7) = 1");
         }
     }
@@ -212,9 +228,11 @@ public final class RowsEdgesTest {
     }
 
     private static void heldNothing() {
-        Run.of("7: FAULT 1 (NOTHING there)", REFERENCES, SORTS, "held(3, 1) = NULL; told(7) = 1; hold(3, 1, 0) = 1; held(3, 1) = 0",
+        Run.of("7: FAULT 1 (NOTHING there)", REFERENCES, SORTS, "held(3, 1) = NULL; told(7) = 1; hold(3, 1, 0) = 1",
+            "held(3, 1) = 0",
             "held(3, 0) = NULL; held(3, 2) = NULL");
-        Run.of("7: of a REFERENCE whose FILE is not there", REFERENCES, SORTS, "hold(3, 0, 0) = 1; exists(0) = NONE; held(3, 0) = 0");
+        Run.of("7: of a REFERENCE whose FILE is not there", REFERENCES, SORTS,
+            "hold(3, 0, 0) = 1; exists(0) = NONE; held(3, 0) = 0");
     }
 
     private static Run numbers(String sentence) {
@@ -237,20 +255,24 @@ public final class RowsEdgesTest {
         numbers(sentence).then("copy(1, 0, 3, 1, 3) = 1", items(1, 10, 10, 11, 12));
         numbers(sentence).then("copy(3, 1, 1, 0, 3) = 1", items(1, 11, 12, 13, 13));
         numbers(sentence).then("copy(1, 0, 1, 0, 4) = 1", items(1, 10, 11, 12, 13));
-        Run.of("8: REFERENCES as if by way of others", REFERENCES, SORTS, "hold(3, 0, 0); hold(3, 1, 1); copy(3, 0, 3, 1, 2) = 1",
+        Run.of("8: REFERENCES as if by way of others", REFERENCES, SORTS, "hold(3, 0, 0); hold(3, 1, 1)",
+            "copy(3, 0, 3, 1, 2) = 1",
             "held(3, 0) = 0; held(3, 1) = 0; held(3, 2) = 1");
     }
 
     private static void copiedAtTheEnds() {
         numbers("8: n items from at on go to those from to on").then("copy(1, 1, 2, 0, 3) = 1", items(2, 11, 12, 13));
         numbers("8: n items from at on go to those from to on").then("copy(1, 0, 2, 2, 1) = 1", items(2, 0, 0, 10));
-        String[] within = {"1, 4, 2, 0, 0", "1, 0, 2, 3, 0", "1, 4, 2, 3, 0", "1, 3, 2, 2, 1", "1, 1, 2, 0, 3", "1, 0, 2, 0, 3"};
+        String[] within = {"1, 4, 2, 0, 0", "1, 0, 2, 3, 0", "1, 4, 2, 3, 0", "1, 3, 2, 2, 1", "1, 1, 2, 0, 3",
+            "1, 0, 2, 0, 3"};
         for (String places : within) {
             numbers("8: up to an end").then("copy(" + places + ") = 1", "told(7) = 0");
         }
-        String[] beyond = {"1, 5, 2, 0, 0", "1, 0, 2, 4, 0", "1, 4, 2, 2, 1", "1, 3, 2, 3, 1", "1, 2, 2, 0, 3", "1, 0, 2, 1, 3",
+        String[] beyond = {"1, 5, 2, 0, 0", "1, 0, 2, 4, 0", "1, 4, 2, 2, 1", "1, 3, 2, 3, 1", "1, 2, 2, 0, 3",
+            "1, 0, 2, 1, 3",
             "1, 0, 2, 0, 4", "1, 0, 1, 0, 5", "1, -1, 2, 0, 1", "1, 0, 2, -1, 1", "1, 0, 2, 0, -1", "1, 4, 2, 3, -1",
-            "1, -1, 2, 0, 0", "1, 0, 2, -1, 0", "1, MAX, 2, 0, 1", "1, 0, 2, MAX, 1", "1, 1, 2, 0, MAX", "1, 0, 2, 1, MAX",
+            "1, -1, 2, 0, 0", "1, 0, 2, -1, 0", "1, MAX, 2, 0, 1", "1, 0, 2, MAX, 1", "1, 1, 2, 0, MAX",
+            "1, 0, 2, 1, MAX",
             "1, MAX, 2, MAX, MAX", "1, MIN, 2, 0, 1", "1, 0, 2, MIN, 1", "1, 0, 2, 0, MIN", "1, MIN, 2, MIN, MIN",
             "1, MAX, 2, MAX, 0"};
         for (String places : beyond) {
@@ -294,7 +316,8 @@ public final class RowsEdgesTest {
     private static void copiedIntoTemporary() {
         String set = SORTS + "; hold(3, 0, 1); hold(3, 1, 0); hold(3, 2, 1)";
         String full = "; hold(4, 0, 2); hold(4, 1, 2); hold(4, 2, 2)";
-        Run.of("8: what is not TEMPORARY does not go into 4: those before have gone", REFERENCES, "temporary(0) = 2", set + full,
+        Run.of("8: what is not TEMPORARY does not go into 4: those before have gone", REFERENCES, "temporary(0) = 2",
+            set + full,
             "copy(3, 0, 4, 0, 3) = STORE; told(7) = 5; held(4, 0) = 1; held(4, 1) = 2; held(4, 2) = 2");
         Run.of("8: none before it", REFERENCES, "temporary(0) = 2", set + full,
             "copy(3, 1, 4, 0, 2) = STORE; held(4, 0) = 2; held(4, 1) = 2; held(4, 2) = 2");

@@ -78,6 +78,11 @@ final class Run {
         return NAMES.containsKey(name) && NAMES.get(name) <= -11;
     }
 
+    /** A number that is written out, or a name's. */
+    static int number(String word) {
+        return NAMES.containsKey(word) ? NAMES.get(word) : Integer.parseInt(word);
+    }
+
     private static Matcher partsOf(String row) {
         Matcher parts = ROW.matcher(row);
         if (!parts.matches()) {
@@ -124,7 +129,7 @@ final class Run {
         if (type == long.class) {
             return Long.parseLong(word);
         }
-        return NAMES.containsKey(word) ? NAMES.get(word) : (Integer) Integer.parseInt(word);
+        return number(word);
     }
 
     /** item() alone answers REFUSED less what another call would. */
