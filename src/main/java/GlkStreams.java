@@ -26,6 +26,7 @@ public final class GlkStreams {
     private static final int MOST_REFERENCES = 20;
     private static final int MOST_FILES = 6;
     private static final int FILE_BYTES = 60;
+    private static final int WIDE_SIGN_BYTES = 4;
     private static final int LAST_USE = 3;
     private static final int SIGNS_SHOWN = 20;
     private static final int NAME_LENGTH = 8;
@@ -972,18 +973,22 @@ public final class GlkStreams {
         FileStream(StoryFile file, int mode, boolean wide) {
             super(FILE, mode, wide);
             this.file = file;
-            this.width = wide ? 4 : 1;
+            this.width = wide ? WIDE_SIGN_BYTES : 1;
             if (mode == WRITE) {
                 file.length = 0;
             }
             if (mode == APPEND) {
-                place = file.length / width;
+                place = wholeSigns();
                 file.length = place * width;
             }
         }
 
         int end() {
-            return file.length / width;
+            return wholeSigns();
+        }
+
+        private int wholeSigns() {
+            return wide ? file.length / WIDE_SIGN_BYTES : file.length;
         }
 
         int write(int c) {

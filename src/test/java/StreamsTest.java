@@ -229,7 +229,8 @@ public final class StreamsTest {
         Due.is("13: an open one keeps its own", x.get(s), 0);
         Due.is("13: to its end", x.get(s), NONE);
         int t = x.resource(3, true);
-        Due.are("13: as got", new long[] {x.get(t), x.get(t), x.get(t), x.get(t), x.get(t)}, LAST_SIGN, 63, 7, 63, NONE);
+        Due.are("13: as got", new long[] {x.get(t), x.get(t), x.get(t), x.get(t), x.get(t)},
+                LAST_SIGN, 63, 7, 63, NONE);
         x.row(2, 3, 1);
         x.row(3, 4, 1);
         Due.is("13: references", x.give(3, 2), CAST);
